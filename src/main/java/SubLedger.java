@@ -647,7 +647,7 @@ public final class SubLedger {
                 return false;
             }
             Token name = advance();
-            noteName(name, accountNamed(name.name) != null, accounts.size() >= MAX_ACCOUNTS);
+            noteName(name, isAccount(name.name), accounts.size() >= MAX_ACCOUNTS);
             int kind = kindOf(next.sign);
             if (kind < 0) {
                 return false;
@@ -692,31 +692,22 @@ public final class SubLedger {
             }
             Token head = advance();
             noteLine(template, head, isRest);
-            if (next.sign != Sign.NAME) {
+            head.account = accountMeant();
+            if (!take(Sign.NAME)) {
                 return false;
             }
-            head.account = accountMeant(advance());
             if (isRest) {
                 template.rest = head.account;
                 return take(Sign.SEMICOLON);
             }
-            if (!readSum(1) || !readCondition()) {
-                return false;
+            boolean isRead = readSum(1);
+            if (isRead && next.sign == Sign.WHEN) {
+                Token when = advance();
+                isRead = readTest(1);
+                steps.add(when);
             }
             steps.add(head);
-            return take(Sign.SEMICOLON);
-        }
-
-        private boolean readCondition() {
-            if (next.sign != Sign.WHEN) {
-                return true;
-            }
-            Token when = advance();
-            if (!readTest(1)) {
-                return false;
-            }
-            steps.add(when);
-            return true;
+            return isRead && take(Sign.SEMICOLON);
         }
 
         private boolean readTest(int depth) {
@@ -743,25 +734,25 @@ public final class SubLedger {
             if (next.sign == Sign.LEFT_SQUARE) {
                 return depth < MAX_DEPTH && take(Sign.LEFT_SQUARE) && readTest(depth + 1) && take(Sign.RIGHT_SQUARE);
             }
-            if (next.sign != Sign.NOT) {
-                return readComparison(depth);
+            if (next.sign == Sign.NOT) {
+                return readNot(depth);
             }
-            if (depth >= MAX_DEPTH) {
-                return false;
-            }
-            Token not = advance();
-            boolean isRead = readSingle(depth + 1);
-            steps.add(not);
-            return isRead;
-        }
-
-        private boolean readComparison(int depth) {
             if (!readSum(depth) || !isComparison(next.sign)) {
                 return false;
             }
             Token comparison = advance();
             boolean isRead = readSum(depth);
             steps.add(comparison);
+            return isRead;
+        }
+
+        private boolean readNot(int depth) {
+            if (depth >= MAX_DEPTH) {
+                return false;
+            }
+            Token not = advance();
+            boolean isRead = readSingle(depth + 1);
+            steps.add(not);
             return isRead;
         }
 
@@ -796,7 +787,10 @@ public final class SubLedger {
                     steps.add(advance());
                     return true;
                 case OF:
-                    return readBalance();
+                    Token of = advance();
+                    of.account = accountMeant();
+                    steps.add(of);
+                    return take(Sign.NAME);
                 case MINUS:
                     return readTurned(depth);
                 case LEFT_ROUND:
@@ -807,16 +801,6 @@ public final class SubLedger {
                 default:
                     return false;
             }
-        }
-
-        private boolean readBalance() {
-            Token of = advance();
-            if (next.sign != Sign.NAME) {
-                return false;
-            }
-            of.account = accountMeant(advance());
-            steps.add(of);
-            return true;
         }
 
         private boolean readTurned(int depth) {
@@ -878,21 +862,24 @@ public final class SubLedger {
             }
         }
 
-        private Account accountMeant(Token name) {
-            Account account = accountNamed(name.name);
-            if (account == null) {
-                note(3, name);
-            }
-            return account;
-        }
-
-        private Account accountNamed(String name) {
+        /** The account of the name that comes next. */
+        private Account accountMeant() {
             for (int i = 0; i < accounts.size(); i++) {
-                if (accounts.get(i).name.equals(name)) {
+                if (accounts.get(i).name.equals(next.name)) {
                     return accounts.get(i);
                 }
             }
+            note(3, next);
             return null;
+        }
+
+        private boolean isAccount(String name) {
+            for (int i = 0; i < accounts.size(); i++) {
+                if (accounts.get(i).name.equals(name)) {
+                    return true;
+                }
+            }
+            return false;
         }
 
         private boolean isTemplate(String name) {

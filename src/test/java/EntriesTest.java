@@ -112,7 +112,8 @@ public final class EntriesTest {
         SubLedger ledger = with("post p{debit cash x*10+y;rest gain;}", "post q{debit euro x*10+y;rest gain;}",
                 "post r{debit cash x*10;debit cost0 x*10+y;rest gain;}", "post s{debit cash x*10+y;rest euro;}",
                 "post t{debit cash 65536*65536+1;rest gain;}", "post u{credit cash 65536*32768;rest gain;}",
-                "post v{debit cash x*10+y when z=1;debit cash 1;rest gain;}", "post w{debit gain 65536*32768;rest cash;}");
+                "post v{debit cash x*10+y when z=1;debit cash 1;rest gain;}", "post w{debit gain 65536*32768;rest cash;}",
+                "post aa{debit cash 5;debit cost0 x*10+y;credit cost0 x*10;rest gain;}");
         Check.due("1000000", 0, () -> ledger.post(0, 0, 100000, 0, 0));
         Check.due("-1000000", 1, () -> ledger.post(0, 0, -100000, 0, 0));
         Check.badState("1000001", () -> ledger.post(0, 0, 100000, 1, 0));
@@ -136,6 +137,8 @@ public final class EntriesTest {
         Check.due("too much when it does not hold", 7, () -> ledger.post(6, 0, 100000, 1, 0));
         lines(ledger, 7, CASH, 1, 0, GAIN, -1, 0);
         Check.badState("too much when it holds", () -> ledger.post(6, 0, 100000, 1, 1));
+        Check.badState("too much, beside others", () -> ledger.post(8, 0, 100000, 1, 0));
+        Check.due("just not too much, beside others", 8, () -> ledger.post(8, 0, 100000, 0, 0));
     }
 
     private static void postWrong() {

@@ -132,6 +132,7 @@ public final class LanguageTest {
 
     private static void words() {
         right("account abcdefghij asset;");
+        right("account azbycxz099 asset;account z9 debt;");
         wrong(1, "account ^abcdefghijk asset;");
         right("account a123456789 asset;");
         wrong(1, "account ^a1234567890 asset;");
@@ -176,6 +177,10 @@ public final class LanguageTest {
         wrong(1, "account a asset  ^");
         wrong(1, "account a asset^");
         wrong(1, "account a ^;");
+        wrong(1, "account a ^items;");
+        wrong(1, A + "post p{^items a;}");
+        wrong(1, A + "post p{debit ^1 x;}");
+        wrong(1, A + "post p{rest ^;}");
         wrong(1, "^a asset;");
         wrong(1, "account a asset foreign ^items;");
         right("account a asset items foreign;account b debt items;account c equity foreign;");
@@ -228,6 +233,9 @@ public final class LanguageTest {
         wrong(1, A + "post p{debit a min(1,max(1,min(1,max(1,min(1,max(1,min(1,max^(1,x))))))));}");
         right(A + "post p{debit a x when [[[[[[[x=1]]]]]]];}");
         wrong(1, A + "post p{debit a x when [[[[[[[^[x=1]]]]]]]];}");
+        right(A + "post p{debit a min(((((((x)))))),1);}");
+        wrong(1, A + "post p{debit a min(((((((^(x))))))),1);}");
+        wrong(1, A + "post p{debit a min(1,((((((^(x))))))));}");
         right(A + "post p{debit a x when not not not not not not not x=1;}");
         wrong(1, A + "post p{debit a x when not not not not not not not ^not x=1;}");
         wrong(1, A + "post p{debit a x when not not not not not not not ^-x=1;}");
@@ -382,6 +390,8 @@ public final class LanguageTest {
         test(true, "not x=1 or y=1", 1, 1, 0);
         test(false, "not not x=1", 0, 1, 0);
         test(true, "x+1<y*2", 2, 2, 0);
+        test(true, "not [x=1 and y=1] or z=1", 1, 0, 0);
+        test(false, "not [x=1 or y=1] and z=1", 1, 0, 1);
     }
 
     private static void wrapping() {
@@ -448,7 +458,7 @@ public final class LanguageTest {
             }
         }
         ledger.post(0, 0, 10, 0, 0);
-        ledger.post(0, 3, 5, 0, 0);
+        ledger.post(0, 11, 5, 0, 0);
         ledger.post(1, 1, 4, 0, 0);
         ledger.allocate(0, 4, 3);
         Check.due("lines", 3, () -> ledger.account(0, 3));
@@ -459,6 +469,7 @@ public final class LanguageTest {
         ledger.setRate(0, 50);
         ledger.close(0);
         Check.due("lines with a revaluation", 4, () -> ledger.account(0, 3));
+        Check.due("lines of another", 0, () -> ledger.account(4, 3));
         Check.due("open credits without a revaluation", 1, () -> ledger.account(0, 5));
         ledger.reopen(0);
         Check.due("lines without a void one", 3, () -> ledger.account(0, 3));

@@ -70,6 +70,11 @@ public final class StatementsTest {
 
     private static void cleared() {
         Check.due("cleared of nothing", 0.0, () -> new SubLedger().cleared());
+        SubLedger first = Check.taught(TEXT);
+        first.post(0, 0, 10, 0, 0);
+        first.post(0, 0, -30, 0, 0);
+        first.allocate(0, 2, 5);
+        Check.due("from the first line on", 10.0 / 80.0, first::cleared);
         SubLedger ledger = Check.taught(TEXT);
         ledger.post(1, 0, 10, 10, 0);
         Check.due("nothing that can be allocated", 0.0, ledger::cleared);
