@@ -8,10 +8,15 @@ public final class SubLedger {
     private static final int MAX_GOAL = 1000000;
     private static final int LAST_TRIED = 200;
     private static final int FEED_BYTES = 20;
+    // The longest line a statement can have, "11 revaluation -2147483648 -1000000" and its end, has 36 bytes.
+    private static final int MAX_PAPER = 36 * Book.MAX_LINES;
+    private static final long HIGHEST_POWER = 1000000000L;
 
     private final Tape tape;
     private final Book book;
-    private final StringBuilder paper;
+    // One row for all statements: what a run makes is counted, and each of its calls can write a long one.
+    private final byte[] paper;
+    private int paperLength;
     private ArrayList<Account> accounts;
     private ArrayList<Template> templates;
     private int errorPlace;
@@ -19,7 +24,7 @@ public final class SubLedger {
     public SubLedger() {
         tape = new Tape();
         book = new Book();
-        paper = new StringBuilder();
+        paper = new byte[MAX_PAPER];
         accounts = new ArrayList<Account>();
         templates = new ArrayList<Template>();
         errorPlace = -1;
@@ -77,7 +82,7 @@ public final class SubLedger {
             case 5: return book.allocations.size();
             case 6: return book.closed;
             case 7: return tape.length;
-            default: return paper.length();
+            default: return paperLength;
         }
     }
 
@@ -287,21 +292,21 @@ public final class SubLedger {
 
     public int state(int account) throws IndexOutOfBoundsException {
         Account asked = accountAt(account);
-        paper.setLength(0);
+        paperLength = 0;
         for (int i = 0; i < book.lines.size(); i++) {
             Line line = book.lines.get(i);
             if (line.account == asked && !line.entry.isVoid) {
-                writeOnPaper(line);
+                writeLine(line);
             }
         }
-        return paper.length();
+        return paperLength;
     }
 
     public int byteAt(int index) throws IndexOutOfBoundsException {
-        if (index < 0 || index >= paper.length()) {
+        if (index < 0 || index >= paperLength || index >= paper.length) {
             throw new IndexOutOfBoundsException("no such place on the paper");
         }
-        return paper.charAt(index);
+        return paper[index];
     }
 
     public double cleared() {
@@ -333,8 +338,8 @@ public final class SubLedger {
                 d = d * 31 + period(i, what);
             }
         }
-        for (int i = 0; i < paper.length(); i++) {
-            d = d * 31 + paper.charAt(i);
+        for (int i = 0; i < paperLength && i < paper.length; i++) {
+            d = d * 31 + paper[i];
         }
         return d;
     }
@@ -352,17 +357,42 @@ public final class SubLedger {
         return d;
     }
 
-    private void writeOnPaper(Line line) {
-        paper.append(line.entry.period);
-        paper.append(' ');
-        paper.append(line.entry.word);
-        paper.append(' ');
-        paper.append(line.amount);
+    private void writeLine(Line line) {
+        writeNumber(line.entry.period);
+        writeByte(' ');
+        writeText(line.entry.word);
+        writeByte(' ');
+        writeNumber(line.amount);
         if (line.account.isForeign) {
-            paper.append(' ');
-            paper.append(line.foreign);
+            writeByte(' ');
+            writeNumber(line.foreign);
         }
-        paper.append('\n');
+        writeByte('\n');
+    }
+
+    private void writeText(String text) {
+        for (int i = 0; i < text.length(); i++) {
+            writeByte(text.charAt(i));
+        }
+    }
+
+    private void writeNumber(int number) {
+        if (number < 0) {
+            writeByte('-');
+        }
+        long size = Math.abs((long) number);
+        for (long power = HIGHEST_POWER; power > 0; power /= 10) {
+            if (size >= power || power == 1) {
+                writeByte((int) ('0' + size / power % 10));
+            }
+        }
+    }
+
+    private void writeByte(int value) {
+        if (paperLength >= 0 && paperLength < paper.length) {
+            paper[paperLength] = (byte) value;
+            paperLength++;
+        }
     }
 
     private Account accountAt(int account) {
@@ -987,8 +1017,8 @@ public final class SubLedger {
     /** The lines of an entry that is not made yet. */
     private static final class Draft {
         private static final int MAX_AMOUNT = 1000000;
-        // One line for each account and a last one are the most, by a closing.
-        private static final int MAX_LINES = 17;
+        // The most is a closing's: a line for each of 15 accounts, and a last one on the 16th.
+        private static final int MAX_LINES = 16;
         // At each of the 8 depths a sum, a product and a min or max, or an or and an and, can wait for
         // their right sides, and the sum ahead of a when, and one side of a comparison, besides.
         private static final int MAX_STACK = 64;
