@@ -214,6 +214,11 @@ public final class ClosingEdgesTest {
         closedUpTo(cost, 2);
         Check.due("cost alone", 2, () -> cost.close(3));
         lines(cost, 1, RENT, -5, OWN, 5);
+        SubLedger ends = Check.taught("account c cost;account e equity;account i income;post p{debit c x;credit i y;rest e;}");
+        ends.post(0, 3, 5, 8, 0);
+        closedUpTo(ends, 2);
+        Check.due("the first account and the last one", 3, () -> ends.close(3));
+        lines(ends, 1, 0, -5, 2, 8, 1, -3);
         SubLedger none = Check.taught(TEXT);
         none.post(1, 4, 5, 0, 0);
         closedUpTo(none, 2);

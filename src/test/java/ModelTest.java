@@ -1,4 +1,5 @@
 import java.util.ArrayList;
+import java.util.Arrays;
 import java.util.List;
 
 /** Asks the program and the slow model of the document the same things, by long rows of calls. */
@@ -6,6 +7,10 @@ public final class ModelTest {
     private static final int TEXTS = 20000;
     private static final int RUNS = 600;
     private static final int CALLS = 512;
+    private static final String WHOLE = "account a asset items foreign ; account b debt ; account c cost items ; "
+            + "post p { debit a x + of b * min ( 1 , - ( 2 ) ) when not [ x < 1 or y >= 2 and z = 3 ] ; "
+            + "credit b period / rate - max ( y , z ) ; rest a ; } post q { rest b ; }";
+    private static final String VOCABULARY = "equity income > <= n 7 000000 1234567 abcdefghijk # =< ;;";
 
     private final Dice dice;
     private final SubLedger real = new SubLedger();
@@ -20,6 +25,7 @@ public final class ModelTest {
 
     public static void main(String[] args) {
         compareTexts();
+        compareTokens();
         for (int seed = 1; seed <= RUNS; seed++) {
             compareRun(seed);
         }
@@ -29,16 +35,32 @@ public final class ModelTest {
     private static void compareTexts() {
         int[] seen = new int[7];
         for (int seed = 1; seed <= TEXTS; seed++) {
-            String text = cut(new Texts(new Dice(seed)).spoilt(), 2000);
-            ModelText want = new ModelText(text);
-            seen[want.error]++;
-            SubLedger ledger = new SubLedger();
-            Check.due("error of: " + text, want.error, () -> Check.teach(ledger, text));
-            Check.due("place of the error of: " + text, want.errorAt, ledger::errorAt);
+            seen[compareText(cut(new Texts(new Dice(seed)).spoilt(), 2000))]++;
         }
         for (int error = 0; error <= 6; error++) {
             int times = seen[error];
             Check.due("texts enough with error " + error, true, () -> times > 20);
+        }
+    }
+
+    private static int compareText(String text) {
+        ModelText want = new ModelText(text);
+        SubLedger ledger = new SubLedger();
+        Check.due("error of: " + text, want.error, () -> Check.teach(ledger, text));
+        Check.due("place of the error of: " + text, want.errorAt, ledger::errorAt);
+        return want.error;
+    }
+
+    /** At each place of a text of all productions, each token: as its last one, in the place of one, and ahead of it. */
+    private static void compareTokens() {
+        for (String token : (VOCABULARY + " " + WHOLE).split(" ")) {
+            String[] all = WHOLE.split(" ");
+            for (int i = 0; i <= all.length; i++) {
+                String ahead = String.join(" ", Arrays.copyOf(all, i)) + " " + token;
+                compareText(ahead);
+                compareText(ahead + " " + String.join(" ", Arrays.copyOfRange(all, i, all.length)));
+                compareText(ahead + " " + String.join(" ", Arrays.copyOfRange(all, Math.min(i + 1, all.length), all.length)));
+            }
         }
     }
 
