@@ -14,12 +14,15 @@ public final class AllocationEdgesTest {
         sixtyAllocations();
         sixtyByMatch();
         matchInOrder();
+        matchAnywhere();
         undoneAll();
         reversalOfAllocated();
         owedPeriods();
         exactOfOne();
         exactTen();
         exactFewest();
+        exactAnywhere();
+        linesOfReversals();
         numbersTold();
         Check.end("AllocationEdgesTest");
     }
@@ -208,6 +211,36 @@ public final class AllocationEdgesTest {
         Check.due("no lines", 0, () -> with().match(0));
     }
 
+    /** Lines of any period, open or closed, and of one entry, in either order; equal amounts are not looked for. */
+    private static void matchAnywhere() {
+        SubLedger ledger = Check.taught(TEXT);
+        ledger.post(0, 5, 10, 0, 0);
+        ledger.post(0, 9, -3, 0, 0);
+        ledger.post(0, 0, -10, 0, 0);
+        ledger.post(1, 1, 4, 0, 0);
+        ledger.post(1, 2, -6, 0, 0);
+        ledger.close(0);
+        ledger.close(1);
+        // Line 0 has 10, 2 has -3, 4 has -10, 6 and 7 have 4 and -4, 8 and 9 have -6 and 6.
+        Check.due("match", 20, () -> ledger.match(0));
+        int[] lines = {0, 2, 4, 6, 7, 8, 9};
+        int[] opens = {0, 0, 0, 0, 0, 3, 0};
+        for (int n = 0; n < lines.length; n++) {
+            int line = lines[n];
+            Check.due("open of " + line, opens[n], () -> ledger.line(line, 4));
+        }
+        // 10 by 3 and 7, 4 by 3 and 1, 6 by 3 and 3.
+        Check.due("allocations", 6, () -> ledger.count(5));
+        Check.due("undo of the second credit", 10, () -> ledger.undo(4));
+        Check.due("of the first debit", 7, () -> ledger.line(0, 4));
+        Check.due("of the second debit", 3, () -> ledger.line(6, 4));
+        SubLedger reversed = with(10, 10, -10);
+        reversed.reverse(0, 4);
+        Check.due("a reversed one, and a reversal", 20, () -> reversed.match(0));
+        Check.due("nothing stays open", 0, () -> reversed.owed(0, 0, 11));
+        Check.due("the reversal took the second one", 0, () -> reversed.line(6, 4));
+    }
+
     /** "Takes all allocations of a line back", of the one that is told first and of the other one. */
     private static void undoneAll() {
         SubLedger ledger = with(10, -10, -10, 10);
@@ -328,6 +361,49 @@ public final class AllocationEdgesTest {
         SubLedger debit = with(-4, -3, -1, -2, -5, 5, 6);
         Check.due("5 by credits", 16, () -> debit.exact(10));
         Check.due("6 by credits", 9, () -> debit.exact(12));
+    }
+
+    /** Open lines of any entry, also of the same one, ahead of it and behind it, of closed periods, and of reversals. */
+    private static void exactAnywhere() {
+        SubLedger ledger = Check.taught(TEXT);
+        ledger.post(1, 5, 4, 0, 0);
+        Check.due("of the same entry", 1, () -> ledger.exact(0));
+        Check.due("of the same entry, the other way", 1, () -> ledger.exact(1));
+        ledger.post(0, 0, -9, 0, 0);
+        ledger.post(0, 11, 9, 0, 0);
+        ledger.post(0, 1, 13, 0, 0);
+        ledger.close(0);
+        Check.due("9 by an earlier one, of a closed period", 2, () -> ledger.exact(4));
+        Check.due("9 by a later one", 2, () -> ledger.exact(2));
+        Check.due("13 by both", 3, () -> ledger.exact(6));
+        ledger.reverse(2, 3);
+        Check.due("9 of one that is reversed, by the least of two", 2, () -> ledger.exact(4));
+        ledger.allocate(2, 6, 9);
+        Check.due("9 by its reversal", 2, () -> ledger.exact(4));
+        Check.due("the reversal's 9", 2, () -> ledger.exact(8));
+        Check.due("4 is still the first one", 1, () -> ledger.exact(6));
+        SubLedger most = Check.taught(TEXT + "post r{debit a x*10;rest i;}");
+        most.post(2, 0, 100000, 0, 0);
+        most.post(2, 0, -100000, 0, 0);
+        Check.due("1000000 by a credit", 1, () -> most.exact(0));
+        Check.due("1000000 by a debit", 1, () -> most.exact(2));
+        Check.due("1000000 are allocated", 1000000, () -> most.match(0));
+        SubLedger greater = with(50, 3, 60, 4, -7);
+        Check.due("greater ones have their places, too", 2 + 8, () -> greater.exact(8));
+    }
+
+    /** A reversal's lines, and those of the one that it reverses, are lines of the account as any others. */
+    private static void linesOfReversals() {
+        SubLedger ledger = with(5, -3);
+        ledger.reverse(0, 6);
+        Check.due("lines", 3, () -> ledger.account(0, 3));
+        Check.due("lines of the income", 3, () -> ledger.account(3, 3));
+        Check.due("open debits", 5, () -> ledger.account(0, 4));
+        Check.due("open credits", 8, () -> ledger.account(0, 5));
+        Check.due("owed of what is reversed", 2, () -> ledger.owed(0, 0, 0));
+        Check.due("owed of the reversal", -5, () -> ledger.owed(0, 6, 6));
+        Check.due("the reversed one to its reversal", 1, () -> ledger.allocate(0, 4, 5));
+        Check.due("cleared", 10.0 / 13.0, ledger::cleared);
     }
 
     /** "if there is no such line", "if there is no such account", "from or to is not 0 to 11". */

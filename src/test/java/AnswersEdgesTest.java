@@ -16,6 +16,7 @@ public final class AnswersEdgesTest {
         wouldWrong();
         solveEnds();
         solveNearest();
+        solveGaps();
         solveNone();
         solveWrong();
         statements();
@@ -88,6 +89,9 @@ public final class AnswersEdgesTest {
         Check.due("solve of the 61st", -1, () -> entries.solve(0, 0, CASH, 64));
         SubLedger lines = Check.taught(TEXT + "post q{" + "debit cash 1;".repeat(7) + "rest in;}");
         for (int n = 0; n < 37; n++) {
+            int cash = 7 * (n + 1);
+            Check.due("8 lines of a new one", cash, () -> lines.would(1, 0, 0, 0, 0, CASH));
+            Check.due("solve with 8 lines", 0, () -> lines.solve(1, 0, CASH, 0));
             lines.post(1, 0, 0, 0, 0);
         }
         Check.due("296 lines", 296, () -> lines.count(4));
@@ -170,6 +174,20 @@ public final class AnswersEdgesTest {
         }
         Check.due("far above the goal", 200, () -> big.solve(1, 0, 0, -1000000));
         Check.due("far below the goal", 1, () -> big.solve(1, 11, 0, 1000000));
+    }
+
+    /** "with which a posting can be made": those with which it cannot are passed over, wherever they stand. */
+    private static void solveGaps() {
+        SubLedger ledger = Check.taught(TEXT + "post q{debit cash x when x<50 or x>150;rest in;}"
+                + "post r{debit cash x;credit own x when x/2*2=x;rest yen;}post s{debit cash x;credit own x when x/3*3=x;}");
+        Check.due("a goal below the gap", 49, () -> ledger.solve(1, 0, CASH, 90));
+        Check.due("the middle of the gap: the least of two", 49, () -> ledger.solve(1, 0, CASH, 100));
+        Check.due("above the middle", 151, () -> ledger.solve(1, 0, CASH, 101));
+        Check.due("behind the gap", 170, () -> ledger.solve(1, 0, CASH, 170));
+        Check.due("no gap", 101, () -> ledger.solve(2, 0, CASH, 101));
+        Check.due("each third one", 102, () -> ledger.solve(3, 0, CASH, 101));
+        Check.due("each third one, below", 99, () -> ledger.solve(3, 0, CASH, 100));
+        Check.due("0 makes no line", 3, () -> ledger.solve(3, 0, CASH, 0));
     }
 
     /** "-1 if it can be made with none". */

@@ -214,6 +214,16 @@ public final class ClosingEdgesTest {
         closedUpTo(cost, 2);
         Check.due("cost alone", 2, () -> cost.close(3));
         lines(cost, 1, RENT, -5, OWN, 5);
+        SubLedger alone = Check.taught("account a asset;account c cost;account e equity;post p{debit c x;rest a;}");
+        alone.post(0, 1, 5, 0, 0);
+        closedUpTo(alone, 2);
+        Check.due("cost without any income account", 2, () -> alone.close(3));
+        lines(alone, 1, 1, -5, 2, 5);
+        SubLedger income = Check.taught("account a asset;account e equity;account i income;post p{debit a x;rest i;}");
+        income.post(0, 2, 5, 0, 0);
+        closedUpTo(income, 2);
+        Check.due("income without any cost account", 2, () -> income.close(3));
+        lines(income, 1, 2, 5, 1, -5);
         SubLedger ends = Check.taught("account c cost;account e equity;account i income;post p{debit c x;credit i y;rest e;}");
         ends.post(0, 3, 5, 8, 0);
         closedUpTo(ends, 2);
@@ -401,6 +411,25 @@ public final class ClosingEdgesTest {
         Check.due("entries of 1", 2, () -> ledger.period(1, 2));
         Check.due("entries of 0", 1, () -> ledger.period(0, 2));
         Check.due("1 never was", 0, () -> ledger.period(1, 3));
+        entriesOfEachKind();
+    }
+
+    /** "entries of it that are not void": those that are posted, reversals, revaluations and results. */
+    private static void entriesOfEachKind() {
+        SubLedger ledger = Check.taught(TEXT);
+        ledger.post(0, 3, 10, 0, 0);
+        ledger.post(1, 3, 7, 0, 0);
+        ledger.reverse(1, 3);
+        closedUpTo(ledger, 2);
+        ledger.setRate(3, 150);
+        Check.due("both are made", 4, () -> ledger.close(3));
+        Check.due("all of it", 5, () -> ledger.period(3, 2));
+        Check.due("none of another", 0, () -> ledger.period(7, 2));
+        ledger.reopen(3);
+        Check.due("without the void ones", 3, () -> ledger.period(3, 2));
+        ledger.setRate(3, 100);
+        Check.due("a result alone", 2, () -> ledger.close(3));
+        Check.due("and its entry", 4, () -> ledger.period(3, 2));
     }
 
     /** "if period is not 0 to 11", "or what is not 0 to 3", "if there is no such account". */

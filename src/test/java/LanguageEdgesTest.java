@@ -10,6 +10,8 @@ public final class LanguageEdgesTest {
         wrapping();
         comparing();
         truthTables();
+        chains();
+        turnedRound();
         deepSums();
         fullTape();
         behindTheTape();
@@ -26,6 +28,7 @@ public final class LanguageEdgesTest {
         lastTokens();
         errorOneIsFirst();
         leftmostError();
+        namesOfTheirOwn();
         smallestError();
         wrongTextsChangeNothing();
         numbersOfNames();
@@ -114,6 +117,49 @@ public final class LanguageEdgesTest {
                             p + " and " + q + " or not " + r));
                 }
             }
+        }
+    }
+
+    /** "{ x } x any number of times": long rows of each sign, worked off from the left. */
+    private static void chains() {
+        for (int many = 0; many <= 24; many++) {
+            StringBuilder or = new StringBuilder("0=1");
+            StringBuilder and = new StringBuilder("0=0");
+            for (int k = 1; k <= many; k++) {
+                or.append(" or x=").append(k);
+                and.append(" and x<").append(100 - k);
+            }
+            int[] asked = {1, many, many + 1, 99 - many, 100 - many};
+            for (int x : asked) {
+                int want = (x >= 1 && x <= many ? 1 : 0) + (x < 100 - many || many == 0 ? 2 : 0);
+                SubLedger ledger = Check.taught("account a asset;account i income;post p{debit a 1000;debit a 1 when " + or
+                        + ";debit a 2 when " + and + ";rest i;}");
+                ledger.post(0, 0, x, 0, 0);
+                Check.due(many + " times or and and, of " + x, want, () -> ledger.balance(0, 0, false) - 1000);
+            }
+            int plus = many;
+            int power = 1 << many;
+            int quotient = 999999 >> many;
+            Check.due(many + " times each sign", 31, () -> holding(
+                    "7" + "+1".repeat(plus) + "=" + (7 + plus), "7" + "-1".repeat(plus) + "=" + (plus > 7 ? "-" : "") + Math.abs(7 - plus),
+                    "1" + "*2".repeat(plus) + "=" + written(power), "999999" + "/2".repeat(plus) + "=" + quotient,
+                    "9" + "-3+1".repeat(plus / 2) + "*5/5".repeat(plus / 3) + "=" + written(9 - plus / 2 * 2)));
+        }
+    }
+
+    /** "-" value, for each value that there is. */
+    private static void turnedRound() {
+        SubLedger ledger = Check.taught("account a asset;account i income;post p{debit a x;rest i;}post q{"
+                + "debit a -7;debit a -x;debit a -y;debit a -z;debit a -period;debit a -rate;debit a -of a;rest i;}"
+                + "post r{debit a -(x+y);debit a -min(x,y);debit a -max(x,y);debit a --z;debit a z*-y;debit a z- -y;debit a -(-x);rest i;}");
+        ledger.setRate(3, 90);
+        ledger.post(0, 2, 11, 0, 0);
+        ledger.post(1, 3, 20, 30, 40);
+        ledger.post(2, 3, 20, 30, 40);
+        int[] want = {-7, -20, -30, -40, -3, -90, -11, 201, -50, -20, -30, 40, -1200, 70, 20, 1170};
+        for (int l = 0; l < want.length; l++) {
+            int line = l + 2;
+            Check.due("line " + line, want[l], () -> ledger.line(line, 2));
         }
     }
 
@@ -444,6 +490,24 @@ public final class LanguageEdgesTest {
         wrong(2, A + "account ^a cost foreign;");
         wrong(6, "account c cost items ^foreign;account c cost;");
         wrong(3, "post p{rest ^p;}account p asset;");
+    }
+
+    /** "Accounts and templates have names of their own". */
+    private static void namesOfTheirOwn() {
+        right(A + "post b{rest a;}account b cost;post a{rest b;}");
+        wrong(2, A + "post b{rest a;}account b cost;account ^b cost;");
+        wrong(2, A + "post b{rest a;}account b cost;post ^b{rest b;}");
+        wrong(3, A + "post b{rest a;}post q{rest ^b;}");
+        wrong(3, A + "post b{rest a;}post q{debit ^b 1;}");
+        wrong(3, A + "post b{rest a;}post q{credit ^b 1;}");
+        wrong(3, A + "post b{rest a;}post q{debit a of ^b;}");
+        wrong(3, A + "post b{rest a;}post q{debit a 1 when 1<of ^b;}");
+        wrong(3, A + "post b{credit a of ^b;}");
+        SubLedger ledger = Check.taught("account a asset;account b income;post b{debit a x;rest b;}post a{debit a y;rest b;}");
+        ledger.post(0, 0, 5, 7, 0);
+        ledger.post(1, 0, 5, 7, 0);
+        ledger.state(0);
+        Check.due("the names of the templates", "0 b 5\n0 a 7\n", () -> Check.paper(ledger));
     }
 
     private static String many(String before, int from, int to, String behind) {
